@@ -70,6 +70,19 @@ public final class ActionsAndHammersTest {
         x.adjust(0, 0, 4, 50);
         settingsAre("the check", x, 19, 27, -33, 1, 69);
         Checks.same("the other note", 20, x.setting(0, 1, 0));
+        int[][] due = {
+            {70, -5, 5, 30, 0}, {20, 70, 40, 20, 20}, {20, 20, 70, 20, 20}, {20, 20, 35, 70, 25}, {20, 20, 20, 20, 70}
+        };
+        for (int setting = 0; setting < 5; setting++) {
+            Hammerline y = pair();
+            y.adjust(0, 0, setting, 50);
+            settingsAre("setting " + setting + " by 50", y, due[setting]);
+            y.back();
+            y.adjust(0, 0, setting, -50);
+            for (int i = 0; i < 5; i++) {
+                Checks.same("setting " + i + " as much the other way", 40 - due[setting][i], y.setting(0, 0, i));
+            }
+        }
         Checks.same("act", 'a', x.actAt(6));
         Checks.same("minutes", 14, x.minutes(0));
     }
@@ -219,6 +232,10 @@ public final class ActionsAndHammersTest {
         Checks.same("a fifth of fifteen", 56 + 12 - 3, x.tone(0, 0));
         x.needle(0, 0, 20);
         Checks.same("by its hardness", x.hardness(0, 0) + 9, x.tone(0, 0));
+        for (int i = 0; i < 9; i++) {
+            x.file(0, 0);
+        }
+        Checks.same("a fifth of sixty", x.hardness(0, 0) + 12 - 12, x.tone(0, 0));
     }
 
     private static void uneven() {
@@ -239,5 +256,9 @@ public final class ActionsAndHammersTest {
         x.harden(0, 0, 50);
         Checks.same("one that is not strung", 62 - between, x.uneven(0));
         Checks.refuses("no piano", INDEX, () -> x.uneven(1));
+        x.piano(39, 2, 20000);
+        x.string(1, 0, 600, 100, 3);
+        x.string(1, 1, 600, 100, 1);
+        Checks.same("down alone", 8, x.uneven(1));
     }
 }

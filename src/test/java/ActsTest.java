@@ -146,6 +146,21 @@ public final class ActsTest {
         x.back();
         Checks.refuses("nothing any more", NONE, () -> x.blame(0, 0, 'a'));
         Checks.same("sound", true, x.isSound());
+        x.string(0, 0, 600, 100, 3);
+        x.limit(0, 'p', 500);
+        x.tune(0, 0, 500);
+        x.harden(0, 0, 50);
+        x.string(0, 0, 600, 100, 1);
+        Checks.same("to blame for the pitch", 3, x.blame(0, 0, 'p'));
+        Checks.same("to blame for the tone", 2, x.blame(0, 0, 't'));
+        x.back();
+        x.limit(0, 'p', 0);
+        Checks.refuses("nothing for the pitch", NONE, () -> x.blame(0, 0, 'p'));
+        Checks.same("the same for the tone", 2, x.blame(0, 0, 't'));
+        x.back();
+        Checks.refuses("tone within again", NONE, () -> x.blame(0, 0, 't'));
+        x.limit(0, 't', 0);
+        Checks.refuses("nothing for the tone", NONE, () -> x.blame(0, 0, 't'));
     }
 
     private static void backLeavesLimitsAndPiece() {

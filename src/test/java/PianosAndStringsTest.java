@@ -166,6 +166,9 @@ public final class PianosAndStringsTest {
         // 1999 * 26160 / 1000 is cut to 52293; 52293 * 52293 * 153 * 153 / 4055000000 is cut to 15786
         x.string(0, 0, 1999, 153, 2);
         Checks.same("tension, cut both times", 15786, x.tension(0, 0));
+        // 42614 * 42614 * 88 * 88 by 4055000000 is hardly more than 3468
+        x.string(0, 0, 1629, 88, 1);
+        Checks.same("tension, hardly not cut", 3468, x.tension(0, 0));
     }
 
     private static void load() {
@@ -184,6 +187,12 @@ public final class PianosAndStringsTest {
         x.string(0, 0, 2000, 71, 1);
         Checks.same("tension at 71", 3402, x.tension(0, 0));
         Checks.same("load at 71", 430, x.load(0, 0));
+        int[][] due = {{256, 118, 153, 6}, {320, 106, 194, 10}, {97, 145, 33, 1}, {137, 145, 66, 2}};
+        for (int[] row : due) {
+            x.string(0, 0, row[0], row[1], 1);
+            Checks.same("tension of a thin load", row[2], x.tension(0, 0));
+            Checks.same("load near its cut", row[3], x.load(0, 0));
+        }
     }
 
     private static void borne() {

@@ -63,6 +63,12 @@ public final class PlayingAndRoomsTest {
         Checks.same("no minutes", 100, x.minutes(0));
         Checks.same("act", 'p', x.actAt(2));
         Checks.same("felt stays", 60, x.felt(0, 0));
+        x.play(0, 1, 2, 500);
+        Checks.same("pitch by just 2000 / 2000", -1001, x.pitch(0, 1));
+        Checks.same("hardness by just 1000 / 500", 52, x.hardness(0, 1));
+        Checks.same("the spring by just 1000 / 1000", 19, x.setting(0, 1, 3));
+        x.play(0, 1, 1, 1999);
+        Checks.same("pitch by less than one", -1001, x.pitch(0, 1));
     }
 
     private static void playBreaksStrings() {
