@@ -160,7 +160,7 @@ public final class PianosAndStringsTest {
         x.piano(39, 2, 250000);
         Checks.refuses("not strung", NONE, () -> x.tension(0, 0));
         Checks.refuses("no note", INDEX, () -> x.tension(0, 2));
-        Checks.refuses("no piano", INDEX, () -> x.tension(1, 0));
+        Checks.refuses("no piano", INDEX, () -> x.tension(2, 0));
         x.string(0, 0, 600, 100, 3);
         Checks.same("tension of one string", 607, x.tension(0, 0));
         // 1999 * 26160 / 1000 is cut to 52293; 52293 * 52293 * 153 * 153 / 4055000000 is cut to 15786
@@ -169,6 +169,10 @@ public final class PianosAndStringsTest {
         // 42614 * 42614 * 88 * 88 by 4055000000 is hardly more than 3468
         x.string(0, 0, 1629, 88, 1);
         Checks.same("tension, hardly not cut", 3468, x.tension(0, 0));
+        // 47899 * 47899 * 130 * 130 by 4055000000 is hardly less than 9562
+        x.piano(41, 1, 250000);
+        x.string(1, 0, 1631, 130, 1);
+        Checks.same("tension, hardly cut", 9561, x.tension(1, 0));
     }
 
     private static void load() {

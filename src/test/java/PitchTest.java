@@ -170,12 +170,16 @@ public final class PitchTest {
             x.string(0, note, 600, 100, 1);
         }
         Checks.same("a fifth", -17, x.quietest(0, 0, 3, 7, 2));
-        x.tune(0, 0, -500);
-        x.tune(0, 0, 500);
         Checks.same("asking tunes none", -1000, x.pitch(0, 0));
+        Checks.same("asking is no act", 3, x.acts());
         Checks.same("as far down as may be", -500, x.quietest(0, 0, 8, 1, 1));
         Checks.same("as far up as may be", 500, x.quietest(0, 0, 1, 1, 8));
-        Checks.same("asking is no act", 5, x.acts());
+        x.tune(0, 0, -16);
+        Checks.same("a fifth, one down", -1, x.quietest(0, 0, 3, 7, 2));
+        x.tune(0, 0, -1);
+        Checks.same("a fifth, as quiet as may be", 0, x.quietest(0, 0, 3, 7, 2));
+        x.tune(0, 0, -1);
+        Checks.same("a fifth, one up", 1, x.quietest(0, 0, 3, 7, 2));
     }
 
     private static void quietestOfSeveral() {
