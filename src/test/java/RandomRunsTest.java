@@ -4,9 +4,6 @@ import java.util.Arrays;
 public final class RandomRunsTest {
     private static final int RUNS = 300;
     private static final int CALLS = 512;
-    private static final String[] ACTS = {
-        "string", "tune", "adjust", "needle", "harden", "file", "play", "perform", "weather"
-    };
     private static final String[] OF_PIANO = {
         "borne", "uneven", "moisture", "faults", "isReady", "minutes", "checksum", "readyShare", "meanTone"
     };
@@ -89,7 +86,7 @@ public final class RandomRunsTest {
         } else if (choice < (kind == 0 ? 3 : kind == 1 ? 30 : 10)) {
             same(call, "back");
         } else if (choice < (kind == 2 ? 96 : 70)) {
-            act(call, ACTS[below(ACTS.length)]);
+            act(call, Calls.ACTS.get(below(Calls.ACTS.size())));
         } else if (choice < 78) {
             same(call, "limit", anyPiano(), anyLimit(), below(3) == 0 ? near(0, 999) : from(0, kind == 3 ? 999 : 60));
         } else if (choice < 84) {
@@ -205,63 +202,9 @@ public final class RandomRunsTest {
     }
 
     private String same(int call, String name, int... n) {
-        boolean isAct = false;
-        for (String act : ACTS) {
-            isAct |= act.equals(name);
-        }
-        String want = isAct ? replay.act(name, n) : replay.other(name, n);
-        String got = Checks.answer(() -> realAnswer(name, n));
+        String want = Calls.ACTS.contains(name) ? replay.act(name, n) : replay.other(name, n);
+        String got = Calls.answer(real, name, n);
         Checks.same(title + call + ": " + name + Arrays.toString(n), want, got);
         return want;
-    }
-
-    private Object realAnswer(String name, int[] n) {
-        return switch (name) {
-            case "piano" -> real.piano(n[0], n[1], n[2]);
-            case "rate" -> real.rate(n[0]);
-            case "string" -> real.string(n[0], n[1], n[2], n[3], n[4]);
-            case "strings" -> real.strings(n[0], n[1]);
-            case "tension" -> real.tension(n[0], n[1]);
-            case "load" -> real.load(n[0], n[1]);
-            case "borne" -> real.borne(n[0]);
-            case "pitch" -> real.pitch(n[0], n[1]);
-            case "tune" -> real.tune(n[0], n[1], n[2]);
-            case "rateOf" -> real.rateOf(n[0], n[1]);
-            case "beats" -> real.beats(n[0], n[1], n[2], n[3], n[4]);
-            case "quietest" -> real.quietest(n[0], n[1], n[2], n[3], n[4]);
-            case "setting" -> real.setting(n[0], n[1], n[2]);
-            case "adjust" -> real.adjust(n[0], n[1], n[2], n[3]);
-            case "hardness" -> real.hardness(n[0], n[1]);
-            case "felt" -> real.felt(n[0], n[1]);
-            case "needle" -> real.needle(n[0], n[1], n[2]);
-            case "harden" -> real.harden(n[0], n[1], n[2]);
-            case "file" -> real.file(n[0], n[1]);
-            case "tone" -> real.tone(n[0], n[1]);
-            case "uneven" -> real.uneven(n[0]);
-            case "play" -> real.play(n[0], n[1], n[2], n[3]);
-            case "blows" -> real.blows(n[0], n[1]);
-            case "type" -> real.type(n[0], n[1]);
-            case "wipe" -> real.wipe();
-            case "perform" -> real.perform(n[0], n[1]);
-            case "weather" -> real.weather(n[0], n[1], n[2]);
-            case "moisture" -> real.moisture(n[0]);
-            case "limit" -> real.limit(n[0], (char) n[1], n[2]);
-            case "isWithin" -> real.isWithin(n[0], n[1], (char) n[2]);
-            case "worst" -> real.worst(n[0], n[1]);
-            case "faults" -> real.faults(n[0]);
-            case "fault" -> real.fault(n[0], n[1]);
-            case "isReady" -> real.isReady(n[0]);
-            case "readiest" -> real.readiest();
-            case "blame" -> real.blame(n[0], n[1], (char) n[2]);
-            case "acts" -> real.acts();
-            case "actAt" -> real.actAt(n[0]);
-            case "pianoOf" -> real.pianoOf(n[0]);
-            case "back" -> real.back();
-            case "minutes" -> real.minutes(n[0]);
-            case "checksum" -> real.checksum(n[0]);
-            case "readyShare" -> real.readyShare(n[0]);
-            case "meanTone" -> real.meanTone(n[0]);
-            default -> real.isSound();
-        };
     }
 }
