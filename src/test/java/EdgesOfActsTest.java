@@ -4,6 +4,7 @@ public final class EdgesOfActsTest {
         noActs();
         whatIsNoAct();
         threeHundredActs();
+        lastActOfEachKind();
         actNumbers();
         lettersOfActs();
         backToNothing();
@@ -87,6 +88,45 @@ public final class EdgesOfActsTest {
             weather(1, 1, 45) = 4500
             acts() = 300
             weather(1, 1, 45) throws IllegalState
+            """);
+    }
+
+    private static void lastActOfEachKind() {
+        Script.run("promise 38, the last of 300 may be of each kind", """
+            piano(39, 1, 20000) = 0
+            string(0, 0, 600, 100, 1) = 607
+            type(0, 1) = 1
+            298 x harden(0, 0, 1)
+            string(0, 0, 600, 100, 2) = 607
+            acts() = 300
+            back() = s
+            tune(0, 0, 1) = -999
+            acts() = 300
+            back() = t
+            adjust(0, 0, 4, 1) = 5
+            acts() = 300
+            back() = a
+            needle(0, 0, 1) = 90
+            acts() = 300
+            back() = n
+            harden(0, 0, 1) = 100
+            acts() = 300
+            back() = h
+            file(0, 0) = 55
+            acts() = 300
+            back() = f
+            play(0, 0, 1, 1) = 1
+            acts() = 300
+            back() = p
+            perform(0, 1) = 0
+            acts() = 300
+            back() = c
+            weather(0, 1, 75) = 4600
+            acts() = 300
+            back() = w
+            acts() = 299
+            strings(0, 0) = 1
+            pitch(0, 0) = -1000
             """);
     }
 

@@ -19,6 +19,7 @@ public final class EdgesOfPlayingTest {
         performingAFullPiece();
         performingWhatIsNotThere();
         performingUntilAllBreaks();
+        performingInOrder();
         performingCountsAhead();
         performingThreeHundredTimes();
         weatherRange();
@@ -374,6 +375,28 @@ public final class EdgesOfPlayingTest {
             strings(0, 0) = 2
             blows(0, 0) = 0
             pitch(0, 0) = -970
+            """);
+    }
+
+    private static void performingInOrder() {
+        Script.run("promise 27, in order, so often at once", """
+            piano(39, 1, 20000) = 0
+            string(0, 0, 926, 100, 1)
+            load(0, 0) = 92
+            type(0, 1) = 1
+            type(0, 9) = 2
+            type(0, 1) = 3
+            perform(0, 500) = 0
+            strings(0, 0) = 0
+            blows(0, 0) = 1000
+            back() = c
+            wipe() = 3
+            type(0, 9) = 1
+            type(0, 1) = 2
+            perform(0, 500) = 0
+            blows(0, 0) = 500
+            hardness(0, 0) = 59
+            setting(0, 0, 3) = 16
             """);
     }
 
